@@ -59,11 +59,12 @@ public final class RootSigns {
         if (!isBelow(lane, LANES)) {
             return OUTSIDE;
         }
-        int fault = faultOfCells(sheets[sheet], lane, i, n);
+        Sheet s = sheets[sheet];
+        int fault = faultOfCells(s, lane, i, n);
         if (fault != NO_FAULT) {
             return failed(fault);
         }
-        int wrong = reader.firstFault(sheets[sheet].cells, i, n);
+        int wrong = reader.firstFault(s.cells, i, n);
         if (wrong != NONE) {
             return -100 - wrong;
         }
@@ -124,11 +125,12 @@ public final class RootSigns {
         if (told.count == 0) {
             return STATE;
         }
-        int fault = faultOfCells(sheets[sheet], lane, i, n * 3);
+        Sheet s = sheets[sheet];
+        int fault = faultOfCells(s, lane, i, n * 3);
         if (fault != NO_FAULT) {
             return failed(fault);
         }
-        int[] cells = sheets[sheet].cells;
+        int[] cells = s.cells;
         if (!areActs(cells, i, n)) {
             return OUTSIDE;
         }
@@ -308,11 +310,12 @@ public final class RootSigns {
         if (!isBelow(lane, LANES)) {
             return OUTSIDE;
         }
-        int fault = faultOfCells(sheets[sheet], lane, i, told.count);
+        Sheet s = sheets[sheet];
+        int fault = faultOfCells(s, lane, i, told.count);
         if (fault != NO_FAULT) {
             return failed(fault);
         }
-        int[] cells = sheets[sheet].cells;
+        int[] cells = s.cells;
         for (int p = 0; p < told.count; p++) {
             if (cells[i + p] < 0 || cells[i + p] > WHICHEVER) {
                 return OUTSIDE;
@@ -462,8 +465,9 @@ public final class RootSigns {
         if (!isSheet(k) || !isBelow(lane, LANES)) {
             return LOST;
         }
-        latestFault = faultOfCells(sheets[k], lane, i, 1);
-        return latestFault == NO_FAULT ? sheets[k].cells[i] : LOST;
+        Sheet s = sheets[k];
+        latestFault = faultOfCells(s, lane, i, 1);
+        return latestFault == NO_FAULT ? s.cells[i] : LOST;
     }
 
     public int copy(int k, int i, int other, int j, int n) {

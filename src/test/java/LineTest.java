@@ -29,6 +29,8 @@ public final class LineTest {
         check("p;p-101;p010", 3, 7, 7);
         check("p;p-901;p-801;p-701;p-601", 8, 17, 9);
         check("p;p-101;p10-1;m-101;p-202", 2, 5, 3);
+        // x x - 5, and that moved by 1, 2 and 3: as many ROWS as there can be, the first and the last alike
+        check("p;p-501;p-4-21;p-1-41;p4-61", 8, 17, 16);
         RootSigns x = Due.of("p;p-101");
         due.is("line 3", x.line(3), OUTSIDE);
         due.is("line -1", x.line(-1), OUTSIDE);
@@ -67,9 +69,8 @@ public final class LineTest {
     }
 
     private static void ofRow() {
-        // + 0 - 0 + and x x: + + + at -1, + between, 0 at 0 ..: (x x - 1, x x)
+        // SPOTS of x x - 1 and x x: ++ 0+ -+ -0 -+ 0+ ++
         RootSigns x = Due.of("p;p-101;p001");
-        // SPOTS: ++ 0+ -+ -0 -+ 0+ ++
         int[][] rows = {{0, 2, 2, 2}, {1, 2, 1, 2}, {2, 2, 0, 2}, {3, 1, 0, 1}};
         for (int r = 0; r < rows.length; r++) {
             due.is("first spot of row " + r, x.ofRow(r, 0), rows[r][0]);

@@ -74,15 +74,15 @@ public final class RootsTest {
     }
 
     private static void signAtTellsApartWhatIsNear() {
-        // 7/5 and 17/12 around the square root of 2: 5 x - 7 below it, 8 x - 9 at 9/8 below, 2 x - 3 above
+        // around the square root of 2: 7/5 and 9/8 are less, 3/2 is greater
         RootSigns x = Due.of("p;p-201;p-750;p-980;p-320");
         due.is("5 x - 7", x.signAt(0, 1, 1), 2);
         due.is("8 x - 9", x.signAt(0, 1, 2), 2);
         due.is("2 x - 3", x.signAt(0, 1, 3), 0);
         due.is("at 7/5", x.signAt(1, 0, 0), 0);
         due.is("at 3/2", x.signAt(3, 0, 0), 2);
-        // 2 x x - 4 is 0 just where x x - 2 is; x x x x is not needed for 3 x x - 6
-        RootSigns y = Due.of("p;p-201;p-402;p6 0-3".replace(" ", ""));
+        // 2 x x - 4 and 6 - 3 x x are 0 just where x x - 2 is
+        RootSigns y = Due.of("p;p-201;p-402;p60-3");
         for (int q = 0; q < 3; q++) {
             due.is("0 at both", y.signAt(0, 0, q) * 10 + y.signAt(0, 1, q), 11);
         }
@@ -120,7 +120,7 @@ public final class RootsTest {
         due.is("sharers -1", x.sharers(-1), UNKNOWN);
         due.is("no roots at all", Due.of("p;p101").sharers(0), UNKNOWN);
         due.is("no polynomials", new RootSigns().sharers(-1), STATE);
-        // eight of them, from -8 on: x x - 64 is out of reach, so spread otherwise
+        // eight of them: + and - the square roots of 9, 8, 7 and 6
         RootSigns y = Due.of("p;p-901;p-801;p-701;p-601");
         for (int p = 0; p < 4; p++) {
             due.is("eight, lesser of " + p, y.place(p, 0), p);
@@ -132,20 +132,20 @@ public final class RootsTest {
     }
 
     private static void sameNumberHoweverWritten() {
-        // the golden ratio four times: x x - x - 1, times -2, mirrored, mirrored and moved
-        RootSigns x = Due.of("p;p-1-11;p22-2;m-111;s1-3-0");
-        due.is("plain and times -2", x.place(0, 0) * 10 + x.place(0, 1), x.place(1, 0) * 10 + x.place(1, 1));
-        due.is("mirrored", x.place(2, 0) * 10 + x.place(2, 1), x.place(0, 0) * 10 + x.place(0, 1));
-        due.is("three share", x.sharers(x.place(0, 0)) & 7, 7);
-        // 1 - 1 (x+1) ... : s with 1 3 1 IS x x - x - 1
-        RootSigns y = Due.of("p;p-1-11;s131");
-        due.is("moved: coefficient 0", y.ofPolynomial(1, 20), 99);
-        due.is("moved: coefficient 1", y.ofPolynomial(1, 21), 99);
-        due.is("two unlike in all", y.line(0), 2);
-        due.is("both share", y.sharers(0) + 10 * y.sharers(1), 33);
-        // a fraction: 2/3 by 3 x - 2, by 6 x - 4, by 9 x x - 12 x .. as (3 x - 2)(x - 1) = 3 x x - 5 x + 2
-        RootSigns z = Due.of("p;p-230;p-460;p2-53;p4-96");
-        due.is("2/3 and 1, and 9 x ..", z.sharers(z.place(0, 0)), 7);
+        // the golden ratio and its other: x x - x - 1, that times -2, x x + x - 1 mirrored, 1 3 1 mirrored and moved
+        RootSigns x = Due.of("p;p-1-11;p22-2;m-111;s131");
+        due.is("two unlike in all", x.line(0), 2);
+        due.is("all share the lesser", x.sharers(0), 15);
+        due.is("all share the greater", x.sharers(1), 15);
+        for (int p = 0; p < 4; p++) {
+            due.is("lesser of " + p, x.place(p, 0), 0);
+            due.is("greater of " + p, x.place(p, 1), 1);
+        }
+        // 2/3 by 3 x - 2, by 6 x - 4, by (3 x - 2)(x - 1); 3/4 is another
+        RootSigns z = Due.of("p;p-230;p-460;p2-53;p-340");
+        due.is("2/3 of three", z.sharers(0), 7);
+        due.is("3/4 of one", z.sharers(1), 8);
+        due.is("1 of one", z.sharers(2), 4);
         // a root that is there twice, alone and beside another: (x + 1)(x + 1), x x - 1, 1 + x
         RootSigns w = Due.of("p;p121;p-101;p110;p-1-2-1");
         due.is("-1 of all", w.sharers(0), 15);
@@ -154,9 +154,7 @@ public final class RootsTest {
     }
 
     private static void nearNumbersAreToldApart() {
-        // 3 x x - 5 x - 9 and 5 x x - 8 x - 8 .. : in order, whatever is near
         RootSigns x = Due.of("p;p-201;p-750;p-1-21;p-540");
-        // the square root of 2 (1.41421), 7/5, 1 + square root of 2 (2.41421) and 1 - it (-0.41421), 5/4
         due.is("- square root of 2", x.place(0, 0), 0);
         due.is("1 - square root of 2", x.place(2, 0), 1);
         due.is("5/4", x.place(3, 0), 2);

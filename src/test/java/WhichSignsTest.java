@@ -56,7 +56,6 @@ public final class WhichSignsTest {
         due.is("that of the first is the first", x.kinds(0), 6);
         due.is("nothing is changed", x.ofPolynomial(0, 0), 0);
         due.is("nor the line", x.signIn(1, 0), 0);
-        // what is read is so by plain alone, and the last alone can't be: no spot 5
         x.reading(5, 0, 1);
         due.is("no spot 5", x.kinds(0), 0);
         due.is("no spot 5 whichever kind the other is", x.kinds(1), 0);
@@ -83,11 +82,11 @@ public final class WhichSignsTest {
         due.is("0 is both's", x.lows(0), 1 << 9);
         due.is("nothing is changed", x.ofPolynomial(0, 10), 9);
         due.is("nor the line", x.line(0), 1);
-        // 0 is the first ROOT: of x + low it is -low
+        // x x has its root first: x + low has its own at 0 or behind it
         x.back(2);
         x.reading(1, 0, 1);
         due.is("lows of x", x.lows(1), ((1 << 10) - 1));
-        // shifted, low as told: -low' .. s with (low, 0, 0) IS low
+        // shifted: COEFFICIENT 0 as it is told, not of what it IS
         RootSigns y = Due.of("p;s320");
         y.reading(0, 0, 2);
         y.reading(1, 0, 1);
