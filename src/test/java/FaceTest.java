@@ -47,10 +47,10 @@ public final class FaceTest {
         Constructor<?>[] made = RootSigns.class.getDeclaredConstructors();
         due.isTrue("one constructor", made.length == 1 && made[0].toString().equals("public RootSigns()"));
         Set<String> face = new TreeSet<>();
-        for (int call = 0; call < Model.NAMES.length; call++) {
-            boolean isLong = Set.of("value", "odds", "cell").contains(Model.NAMES[call]);
-            face.add("public " + (isLong ? "long" : "int") + " RootSigns." + Model.NAMES[call] + "("
-                + String.join(",", Collections.nCopies(Model.ARGUMENTS[call], "int")) + ")");
+        for (int call = 0; call < Calls.NAMES.length; call++) {
+            boolean isLong = Calls.answersLong(Calls.NAMES[call]);
+            face.add("public " + (isLong ? "long" : "int") + " RootSigns." + Calls.NAMES[call] + "("
+                + String.join(",", Collections.nCopies(Calls.ARGUMENTS[call], "int")) + ")");
         }
         Set<String> found = new TreeSet<>();
         for (Method m : RootSigns.class.getDeclaredMethods()) {
@@ -65,7 +65,7 @@ public final class FaceTest {
     }
 
     private static boolean isPublicName(String name) {
-        return Arrays.asList(Model.NAMES).contains(name);
+        return Arrays.asList(Calls.NAMES).contains(name);
     }
 
     private static void nestedClasses() {

@@ -12,7 +12,7 @@ import java.util.regex.Pattern;
  * The document told a second time, by other means: roots are decimal fractions of 60 digits, far finer than
  * roots of such small polynomials can lie apart; signs between roots are looked up half way.
  */
-final class Model {
+final class Model implements Calls.Asked {
     private static final int UNKNOWN = -1, OUTSIDE = -2, STATE = -3, FULL = -4, NONE = -9;
     private static final long LOST = Long.MIN_VALUE;
     private static final MathContext FINE = new MathContext(60);
@@ -173,17 +173,9 @@ final class Model {
     private int trace = 0;
     private int fault = 0;
 
-    /** The calls in the order of the document's face. */
-    static final String[] NAMES = {"polynomials", "ofPolynomial", "value", "tune", "day", "called", "byName", "signAt", "more",
-        "place", "sharers", "line", "signIn", "ofRow", "wish", "reading", "back", "kinds", "lows", "odds", "sheet", "lose", "put",
-        "cell", "copy", "tell", "call", "as", "trace", "fault", "many"};
-    static final int[] ARGUMENTS = {4, 2, 2, 3, 5, 2, 2, 3, 2, 2, 1, 1, 2, 2, 3, 3, 1, 1, 1, 3, 3, 1, 3, 3, 5, 1, 1, 2, 0, 0, 1};
-
-    long ask(int call, int[] a) {
-        String name = NAMES[call];
-        boolean namesFaults = List.of("polynomials", "day", "wish", "sheet", "put", "cell", "copy", "as").contains(name);
-        boolean isLong = List.of("value", "odds", "cell").contains(name);
-        if (namesFaults) {
+    @Override
+    public long ask(String name, int... a) {
+        if (Calls.namesFaults(name)) {
             fault = 0;
         }
         try {
@@ -192,7 +184,7 @@ final class Model {
             if (stop.answer <= -11 && stop.answer >= -14) {
                 fault = -10 - stop.answer;
             }
-            return isLong ? LOST : stop.answer;
+            return Calls.answersLong(name) ? LOST : stop.answer;
         }
     }
 

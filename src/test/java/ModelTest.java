@@ -1,4 +1,3 @@
-import java.util.Arrays;
 import java.util.Random;
 
 /** All promises: many runs of calls, the same ones on an object and on the model, answer by answer. */
@@ -7,8 +6,8 @@ public final class ModelTest {
     private static final int RUNS = 400;
     private static final int CALLS = 512;
 
-    private final RootSigns x = new RootSigns();
-    private final Model model = new Model();
+    private final Calls.Asked x = Calls.of(new RootSigns());
+    private final Calls.Asked model = new Model();
     private final Random random;
     private final String run;
 
@@ -19,33 +18,33 @@ public final class ModelTest {
 
     public static void main(String[] args) {
         for (int seed = 0; seed < RUNS; seed++) {
-            new ModelTest(seed).go(CALLS);
+            new ModelTest(seed).go();
         }
         due.end();
     }
 
     private int calls = 0;
 
-    private void go(int most) {
-        while (calls < most) {
+    private void go() {
+        while (calls < CALLS) {
             switch (random.nextInt(12)) {
                 case 0: text(); break;
                 case 1: case 2: whole(); break;
                 case 3: readings(); break;
                 case 4: row(); break;
-                default: any(random.nextInt(Model.NAMES.length)); break;
+                default: any(random.nextInt(Calls.NAMES.length)); break;
             }
         }
     }
 
-    private void same(int call, int... a) {
+    /** What an object answers behind its 512th call is free. */
+    private void same(String name, int... a) {
+        if (calls >= CALLS) {
+            return;
+        }
         calls++;
-        long want = model.ask(call, a);
-        due.is(run + calls + ": " + Model.NAMES[call] + Arrays.toString(a), ask(call, a), want);
-    }
-
-    private static int number(String name) {
-        return Arrays.asList(Model.NAMES).indexOf(name);
+        long want = model.ask(name, a);
+        due.is(run + calls + ": " + Calls.told(name, a), x.ask(name, a), want);
     }
 
     /** Small numbers mostly, at and beyond the edges now and then. */
@@ -58,11 +57,11 @@ public final class ModelTest {
     }
 
     private void any(int call) {
-        int[] a = new int[Model.ARGUMENTS[call]];
+        int[] a = new int[Calls.ARGUMENTS[call]];
         for (int k = 0; k < a.length; k++) {
             a[k] = argument();
         }
-        same(call, a);
+        same(Calls.NAMES[call], a);
     }
 
     private int coefficient() {
@@ -85,48 +84,48 @@ public final class ModelTest {
         int n = text.length();
         int sheet = random.nextInt(4);
         int lane = random.nextInt(3);
-        same(number("sheet"), sheet, lane, n);
+        same("sheet", sheet, lane, n);
         for (int i = 0; i < n; i++) {
-            same(number("put"), sheet, i, text.charAt(i));
+            same("put", sheet, i, text.charAt(i));
         }
         if (random.nextInt(4) == 0) {
-            same(number("polynomials"), sheet, lane, random.nextInt(3), random.nextInt(n + 2));
+            same("polynomials", sheet, lane, random.nextInt(3), random.nextInt(n + 2));
         }
-        same(number("polynomials"), sheet, lane, 0, n);
+        same("polynomials", sheet, lane, 0, n);
     }
 
     /** All that there is to ask of some POLYNOMIAL. */
     private void whole() {
         int p = random.nextInt(4);
         for (int i = 0; i < 3; i++) {
-            same(number("called"), p, i);
-            same(number("place"), p, i);
-            same(number("signAt"), p, i, random.nextInt(4));
+            same("called", p, i);
+            same("place", p, i);
+            same("signAt", p, i, random.nextInt(4));
         }
         int sign = random.nextInt(3);
-        same(number("odds"), p, sign, 0);
-        same(number("odds"), p, sign, 1);
-        same(number("line"), 2);
-        same(number("ofRow"), random.nextInt(9), random.nextInt(2));
-        same(number("ofRow"), random.nextInt(9), 10 + random.nextInt(4));
-        same(number("signIn"), random.nextInt(17), p);
-        same(number("sharers"), random.nextInt(8));
-        same(number("more"), p, random.nextInt(4));
-        same(number("tune"), p, random.nextInt(3), coefficient());
-        same(number("kinds"), random.nextInt(4));
-        same(number("ofPolynomial"), p, 20 + random.nextInt(3));
-        same(number("value"), p, random.nextInt(2000003) - 1000001);
+        same("odds", p, sign, 0);
+        same("odds", p, sign, 1);
+        same("line", 2);
+        same("ofRow", random.nextInt(9), random.nextInt(2));
+        same("ofRow", random.nextInt(9), 10 + random.nextInt(4));
+        same("signIn", random.nextInt(17), p);
+        same("sharers", random.nextInt(8));
+        same("more", p, random.nextInt(4));
+        same("tune", p, random.nextInt(3), coefficient());
+        same("kinds", random.nextInt(4));
+        same("ofPolynomial", p, 20 + random.nextInt(3));
+        same("value", p, random.nextInt(2000003) - 1000001);
     }
 
     private void readings() {
-        same(number("back"), random.nextInt(9));
+        same("back", random.nextInt(9));
         for (int n = random.nextInt(4); n > 0; n--) {
-            same(number("reading"), random.nextInt(random.nextInt(8) == 0 ? 22 : 7), random.nextInt(4), random.nextInt(3));
+            same("reading", random.nextInt(random.nextInt(8) == 0 ? 22 : 7), random.nextInt(4), random.nextInt(3));
         }
         for (int p = 0; p < 4; p++) {
-            same(number("kinds"), p);
+            same("kinds", p);
         }
-        same(number("lows"), random.nextInt(4));
+        same("lows", random.nextInt(4));
     }
 
     /** A row for a DAY or a WISH, and some of these. */
@@ -134,51 +133,15 @@ public final class ModelTest {
         int sheet = random.nextInt(4);
         int lane = random.nextInt(3);
         int n = 3 * random.nextInt(5);
-        same(number("sheet"), sheet, lane, n);
+        same("sheet", sheet, lane, n);
         for (int i = 0; i < n; i++) {
             int rare = random.nextInt(40);
-            same(number("put"), sheet, i, rare == 0 ? random.nextInt() : rare == 1 ? -1 : i % 3 == 2 ? coefficient() : random.nextInt(3));
+            same("put", sheet, i, rare == 0 ? random.nextInt() : rare == 1 ? -1 : i % 3 == 2 ? coefficient() : random.nextInt(3));
         }
         for (int asked = 0; asked < 6; asked++) {
             int what = random.nextInt(9);
-            same(number("day"), sheet, lane, 3 * random.nextInt(2), random.nextInt(5), what < 5 ? what : what + 5);
-            same(number("wish"), sheet, lane, random.nextInt(10));
-        }
-    }
-
-    private long ask(int call, int[] a) {
-        switch (Model.NAMES[call]) {
-            case "polynomials": return x.polynomials(a[0], a[1], a[2], a[3]);
-            case "ofPolynomial": return x.ofPolynomial(a[0], a[1]);
-            case "value": return x.value(a[0], a[1]);
-            case "tune": return x.tune(a[0], a[1], a[2]);
-            case "day": return x.day(a[0], a[1], a[2], a[3], a[4]);
-            case "called": return x.called(a[0], a[1]);
-            case "byName": return x.byName(a[0], a[1]);
-            case "signAt": return x.signAt(a[0], a[1], a[2]);
-            case "more": return x.more(a[0], a[1]);
-            case "place": return x.place(a[0], a[1]);
-            case "sharers": return x.sharers(a[0]);
-            case "line": return x.line(a[0]);
-            case "signIn": return x.signIn(a[0], a[1]);
-            case "ofRow": return x.ofRow(a[0], a[1]);
-            case "wish": return x.wish(a[0], a[1], a[2]);
-            case "reading": return x.reading(a[0], a[1], a[2]);
-            case "back": return x.back(a[0]);
-            case "kinds": return x.kinds(a[0]);
-            case "lows": return x.lows(a[0]);
-            case "odds": return x.odds(a[0], a[1], a[2]);
-            case "sheet": return x.sheet(a[0], a[1], a[2]);
-            case "lose": return x.lose(a[0]);
-            case "put": return x.put(a[0], a[1], a[2]);
-            case "cell": return x.cell(a[0], a[1], a[2]);
-            case "copy": return x.copy(a[0], a[1], a[2], a[3], a[4]);
-            case "tell": return x.tell(a[0]);
-            case "call": return x.call(a[0]);
-            case "as": return x.as(a[0], a[1]);
-            case "trace": return x.trace();
-            case "fault": return x.fault();
-            default: return x.many(a[0]);
+            same("day", sheet, lane, 3 * random.nextInt(2), random.nextInt(5), what < 5 ? what : what + 5);
+            same("wish", sheet, lane, random.nextInt(10));
         }
     }
 }
